@@ -51,6 +51,7 @@ public final class TableTest {
         is(x, "sum({})", 0, 60, 2, ": 269 11");
         is(x, "count({})", 0, 60, 3, ": 6 2 .");
         is(x, "most({job=\"store\"})", 30, 1, 2, ": -5 8");
+        is(hosts(), "latest by (job) ({})", 0, 60, 2, "api: 9 20; store: 8 -9");
     }
 
     private static void ties() {
@@ -153,6 +154,9 @@ public final class TableTest {
         is(x, "count({job=\"api\",host=\"db1\"})", 0, 100, 1, "");
         is(x, "count({host^=\"web\",host!=\"web1\"})", 0, 100, 1, ": 2");
         is(x, "count({job=\"api\",job=\"store\"})", 0, 100, 1, "");
+        Check.series(x, "_0aZ9=x,A.b=y");
+        x.append(4, 200, 5);
+        is(x, "sum by (_0aZ9) ({_0aZ9=\"x\"})", 200, 1, 1, "x: 5");
     }
 
     private static void groups() {
@@ -167,6 +171,7 @@ public final class TableTest {
         // A row whose cells are all nothing is none, and the others take its place.
         is(x, "count by (host) ({})", 70, 10, 1, ": 1; web1: 1");
         is(x, "count by (host) ({})", 25, 5, 2, ": . 1; db1: . 1; web2: 1 .");
+        is(x, "count by (host) ({host!=\"\"})", 30, 40, 2, "db1: 1 .; web1: . 1");
     }
 
     private static void orderOfRows() {
@@ -236,6 +241,7 @@ public final class TableTest {
         is(x, "sum({job=\"none\"}) + 1", 0, 100, 2, "");
         is(x, "1 - sum({job=\"none\"})", 0, 100, 2, "");
         is(x, "-sum({})", 0, 60, 3, ": -269 -11 .");
+        is(x, "-count by (host) ({})", 0, 100, 1, ": -2; db1: -1; web1: -3; web2: -2");
         is(x, "sum({}) * 0", 0, 60, 3, ": 0 0 .");
         is(x, "count({}) / (count({}) - 2)", 0, 60, 3, ": 1 . .");
         is(x, "count({}) % (count({}) - 2)", 0, 60, 3, ": 2 . .");
