@@ -2,8 +2,13 @@ import java.nio.charset.StandardCharsets;
 
 /** What all tests use: comparing answers, and putting texts on the tape of an object. */
 final class Check {
+    // No text has so many bytes: a class that never says NONE must not keep a test running.
+    private static final int ENOUGH = 1000;
+
     private static int checks = 0;
     private static int wrong = 0;
+    private static String sentence = "";
+    private static int checksBefore = 0;
 
     interface Call {
         long answer();
@@ -12,20 +17,36 @@ final class Check {
     private Check() {
     }
 
-    static void due(String call, long got, long want) {
-        checks++;
-        if (got != want) {
+    /** The words of the document that the checks from here on hold the class to; each must have one. */
+    static void sentence(String words) {
+        closeSentence();
+        sentence = words;
+    }
+
+    private static void closeSentence() {
+        if (!sentence.isEmpty() && checks == checksBefore) {
             wrong++;
-            System.out.println(call + " answered " + got + ", due is " + want);
+            System.out.println("nothing looks at: " + sentence);
         }
+        sentence = "";
+        checksBefore = checks;
+    }
+
+    static void due(String call, long got, long want) {
+        due(call, Long.toString(got), Long.toString(want));
     }
 
     static void due(String call, String got, String want) {
         checks++;
         if (!got.equals(want)) {
             wrong++;
-            System.out.println(call + " answered " + got + ", due is " + want);
+            String of = sentence.isEmpty() ? "" : "[" + sentence + "] ";
+            System.out.println(of + call + " answered " + got + ", due is " + want);
         }
+    }
+
+    static void due(String call, boolean got, boolean want) {
+        due(call, Boolean.toString(got), Boolean.toString(want));
     }
 
     /** The exception must be of that very class, not of one below it that the machine threw. */
@@ -42,30 +63,45 @@ final class Check {
     }
 
     static void finish(String test) {
+        closeSentence();
         System.out.println(test + ": " + checks + " answers, " + wrong + " not as due");
         if (wrong != 0 || checks == 0) {
             System.exit(1);
         }
     }
 
-    /** Puts the bytes of a text behind those that the tape of x has. */
+    /**
+     * Puts the bytes of a text behind those that the tape of x has. Feeding goes by twenties: what is more than these
+     * comes first, so that a text may fill the tape to its last byte.
+     */
     static void feed(WindowTables x, int had, String text) {
         byte[] bytes = text.getBytes(StandardCharsets.ISO_8859_1);
-        int at = 0;
-        while (at < bytes.length) {
-            int[] five = new int[5];
-            for (int i = 0; i < 20; i++) {
-                int b = at + i < bytes.length ? bytes[at + i] & 255 : 0;
-                five[i / 4] = five[i / 4] << 8 | b;
-            }
-            x.feed(five[0], five[1], five[2], five[3], five[4]);
-            at += 20;
+        int more = bytes.length % 20;
+        if (more > 0) {
+            feedTwenty(x, bytes, 0, more);
         }
-        x.end(had + bytes.length);
+        x.end(had + more);
+        for (int at = more; at < bytes.length; at += 20) {
+            feedTwenty(x, bytes, at, 20);
+        }
+    }
+
+    private static void feedTwenty(WindowTables x, byte[] bytes, int at, int many) {
+        int[] five = new int[5];
+        for (int i = 0; i < 20; i++) {
+            five[i / 4] = five[i / 4] << 8 | (i < many ? bytes[at + i] & 255 : 0);
+        }
+        x.feed(five[0], five[1], five[2], five[3], five[4]);
     }
 
     static void feed(WindowTables x, String text) {
         feed(x, 0, text);
+    }
+
+    /** As a call that answers, for refused() and outcome(). */
+    static long end(WindowTables x, int n) {
+        x.end(n);
+        return 0;
     }
 
     static int series(WindowTables x, String text) {
@@ -92,7 +128,7 @@ final class Check {
 
     static String textOf(WindowTables x, int s) {
         StringBuilder text = new StringBuilder();
-        for (int k = 0; x.letter(s, k) != WindowTables.NONE; k++) {
+        for (int k = 0; k < ENOUGH && x.letter(s, k) != WindowTables.NONE; k++) {
             text.append((char) x.letter(s, k));
         }
         return text.toString();
@@ -105,7 +141,7 @@ final class Check {
             all.append(row == 0 ? "" : "; ");
             for (int k = 0; k < x.names(); k++) {
                 all.append(k == 0 ? "" : ",");
-                for (int i = 0; x.text(row, k, i) != WindowTables.NONE; i++) {
+                for (int i = 0; i < ENOUGH && x.text(row, k, i) != WindowTables.NONE; i++) {
                     all.append((char) x.text(row, k, i));
                 }
             }

@@ -24,10 +24,7 @@ public final class TapeTest {
         Check.refused("text(0, 0, 0)", IndexOutOfBoundsException.class, () -> x.text(0, 0, 0));
         Check.refused("isThere(0, 0)", IndexOutOfBoundsException.class, () -> x.isThere(0, 0) ? 1 : 0);
         Check.refused("cell(0, 0)", IndexOutOfBoundsException.class, () -> x.cell(0, 0));
-        Check.refused("end(1)", IllegalArgumentException.class, () -> {
-            x.end(1);
-            return 0;
-        });
+        Check.refused("end(1)", IllegalArgumentException.class, () -> Check.end(x, 1));
         Check.due("pack()", x.pack(), 0);
         Check.due("retain(0)", x.retain(0), 0);
     }
@@ -59,23 +56,18 @@ public final class TapeTest {
     private static void ending() {
         WindowTables x = new WindowTables();
         x.feed(0x613D622C, 0x633D6421, 0, 0, 0);
-        Check.refused("end(21)", IllegalArgumentException.class, () -> end(x, 21));
-        Check.refused("end(-1)", IllegalArgumentException.class, () -> end(x, -1));
-        Check.refused("end(least)", IllegalArgumentException.class, () -> end(x, Integer.MIN_VALUE));
-        Check.refused("end(most)", IllegalArgumentException.class, () -> end(x, Integer.MAX_VALUE));
-        Check.due("end(20)", end(x, 20), 0);
-        Check.due("end(7)", end(x, 7), 0);
-        Check.refused("end(8)", IllegalArgumentException.class, () -> end(x, 8));
-        Check.due("end(7) again", end(x, 7), 0);
+        Check.refused("end(21)", IllegalArgumentException.class, () -> Check.end(x, 21));
+        Check.refused("end(-1)", IllegalArgumentException.class, () -> Check.end(x, -1));
+        Check.refused("end(least)", IllegalArgumentException.class, () -> Check.end(x, Integer.MIN_VALUE));
+        Check.refused("end(most)", IllegalArgumentException.class, () -> Check.end(x, Integer.MAX_VALUE));
+        Check.due("end(20)", Check.end(x, 20), 0);
+        Check.due("end(7)", Check.end(x, 7), 0);
+        Check.refused("end(8)", IllegalArgumentException.class, () -> Check.end(x, 8));
+        Check.due("end(7) again", Check.end(x, 7), 0);
         Check.due("series()", x.series(), 0);
         Check.due("its text", Check.textOf(x, 0), "a=b,c=d");
-        Check.refused("end(1) on an empty tape", IllegalArgumentException.class, () -> end(x, 1));
-        Check.due("end(0) on an empty tape", end(x, 0), 0);
-    }
-
-    private static long end(WindowTables x, int n) {
-        x.end(n);
-        return 0;
+        Check.refused("end(1) on an empty tape", IllegalArgumentException.class, () -> Check.end(x, 1));
+        Check.due("end(0) on an empty tape", Check.end(x, 0), 0);
     }
 
     private static void orderOfBytes() {
