@@ -226,8 +226,9 @@ public final class CellsTest {
         x.append(0, 5, 50);
         x.append(1, 4, 41);
         x.append(2, 6, 62);
-        is(x, "first({})", 0, 10, 1, ": 41");
+        // The first question of an object may be of either kind.
         is(x, "latest({})", 0, 10, 1, ": 62");
+        is(x, "first({})", 0, 10, 1, ": 41");
         is(x, "first({})", 5, 10, 1, ": 50");
         is(x, "latest({})", 0, 6, 1, ": 50");
         Check.sentence("(of several the one of the series with the least number)");

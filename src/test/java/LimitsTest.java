@@ -100,6 +100,7 @@ public final class LimitsTest {
         goodText("b=1,a=2", "a=2,b=1");
         // With the = the bytes would stand the other way round: ! is below it.
         goodText("a!=1,a=2", "a=2,a!=1");
+        goodText("a=2,a!=1", "a=2,a!=1");
         goodText("~=1,a=2,A=3,9=4,!=5", "!=5,9=4,A=3,a=2,~=1");
         goodText(LONG + "=1," + LONG.substring(0, 23) + "=2", LONG.substring(0, 23) + "=2," + LONG + "=1");
     }
